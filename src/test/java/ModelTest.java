@@ -10,9 +10,12 @@ public final class ModelTest {
     private DuelDelays x;
     private Model y;
     private String trail = "";
+    /** In a slow run MEN live long, REASONS are worth little, and few DAYS go by. */
+    private final boolean slow;
 
     private ModelTest(long seed, Checks checks) {
         random = new Random(seed);
+        slow = random.nextInt(3) == 0;
         this.checks = checks;
     }
 
@@ -31,7 +34,7 @@ public final class ModelTest {
         y = new Model();
         int calls = 0;
         while (calls < 420) {
-            if (calls == 0 || random.nextInt(100) == 0) {
+            if (calls == 0 || random.nextInt(slow ? 60 : 100) == 0) {
                 calls += newCode();
             } else {
                 step();
@@ -79,10 +82,10 @@ public final class ModelTest {
         StringBuilder s = new StringBuilder();
         int men = random.nextInt(5) + 2;
         int kinds = random.nextInt(4) + 1;
-        int reasons = random.nextInt(9);
+        int reasons = slow ? 8 - random.nextInt(3) : random.nextInt(9);
         int most = new int[] {30, 100, 400, 999}[random.nextInt(4)];
         for (int i = 0; i < men; i++) {
-            s.append("man ").append(NAMES[i]).append(" dies ").append(1 + random.nextInt(most));
+            s.append("man ").append(NAMES[i]).append(" dies ").append(slow ? 40 + random.nextInt(30) : 1 + random.nextInt(most));
             if (random.nextBoolean()) {
                 s.append(" coin ").append(random.nextInt(20));
             }
@@ -92,7 +95,7 @@ public final class ModelTest {
             s.append(';');
         }
         for (int i = 0; i < kinds; i++) {
-            s.append("kind ").append(NAMES[i]).append(' ').append(formula(random.nextInt(4))).append(";\n");
+            s.append("kind ").append(NAMES[i]).append(' ').append(slow ? slowFormula() : formula(random.nextInt(4))).append(";\n");
         }
         for (int i = 0; i < reasons; i++) {
             reasonLine(s, NAMES[9 - i], kinds, men);
@@ -133,6 +136,11 @@ public final class ModelTest {
             s.append(" rent ").append(random.nextInt(9));
         }
         s.append(new String[] {"", "", " all", " each"}[random.nextInt(4)]).append(';');
+    }
+
+    private String slowFormula() {
+        String[] some = {"3 + uses", "5 + day % 3", "9 - uses", "2 + spent", "8", "11 - spent", "6 + day % 2 * 5", "4"};
+        return some[random.nextInt(some.length)];
     }
 
     private String formula(int depth) {
@@ -214,7 +222,7 @@ public final class ModelTest {
         } else if (pick < 25) {
             due("insult(" + m + ", " + o + ")", x.insult(m, o), y.insult(m, o));
         } else if (pick < 29) {
-            int n = random.nextInt(20) == 0 ? some(402) : random.nextInt(6);
+            int n = slow ? random.nextInt(2) : random.nextInt(20) == 0 ? some(402) : random.nextInt(6);
             due("days(" + n + ")", x.days(n), y.days(n));
         } else if (pick < 34) {
             due("undo()", x.undo(), y.undo());
