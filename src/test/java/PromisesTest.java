@@ -128,6 +128,11 @@ public final class PromisesTest {
     private static void promise5Tokens() {
         fault("", 0, -1);
         fault("man a dies 3;", 0, -1);
+        fault("man zaz dies 3;", 0, -1);
+        fault("man `a dies 3;", 1, 4);
+        fault("man a{ dies 3;", 1, 5);
+        fault("man a dies 09;", 0, -1);
+        fault("man a dies 9:;", 1, 12);
         fault("man\na\ndies3;\n", 0, -1);
         fault("mana dies 3;", 2, 0);
         fault("man abcdefgh dies 3;", 0, -1);
@@ -154,11 +159,23 @@ public final class PromisesTest {
         fault("a;", 2, 0);
         fault(";", 2, 0);
         fault("man a dies 3;;", 2, 13);
+        fault("man a dies 3 man b dies 3;", 2, 13);
+        fault("kind k 1 kind q 1;", 2, 9);
+        fault("kind k 1;reason r of k reason s of k;", 2, 23);
+        fault("man a dies 3;man b dies 3;duel a with b on 3 honour 4;", 2, 45);
+        fault("honour 3 draw 4;", 2, 9);
+        fault("draw 3 honour 4;", 2, 7);
         fault("man a dies 3 son a;", 5, 17);
         fault("man a dies 3;man b dies 3 son a coin 2;", 2, 32);
         fault("man a dies 3;man b dies 3 coin 2 son a;", 0, -1);
         fault("kind k;", 2, 6);
         fault("kind k 1 +;", 2, 10);
+        fault("kind k 1 or;", 2, 11);
+        fault("kind k 1 and;", 2, 12);
+        fault("kind k not;", 2, 10);
+        fault("kind k 1 <;", 2, 10);
+        fault("kind k 1 *;", 2, 10);
+        fault("kind k ();", 2, 8);
         fault("kind k 1 < 2 < 3;", 2, 13);
         fault("kind k 1 + not 2;", 2, 11);
         fault("kind k not 1 < 2 and not not day or uses = spent;", 0, -1);
@@ -310,12 +327,14 @@ public final class PromisesTest {
         String[] formulas = {"1+2*3", "(1+2)*3", "7/2", "7%4", "0-7/2+20", "7/0+4", "7%0+4", "2<3", "day", "day", "day",
             "400", "0", "0-5", "not 0+4", "not 5+9", "3 and 4", "3 or 4", "10*(3 and 4)", "10*(0 or 4)", "10*(0 and 4)",
             "10*(5>4)", "10*(4>5)", "10*(4=4)", "9-3-2", "100/10/5", "9999*9999*9999", "(0-7)/2+20", "(0-7)%4+20",
-            "9999*9999*9999%1000+500", "10*(not not 7)", "10*(1 or 0 and 0)", "day/day", "8*2%5"};
+            "9999*9999*9999%1000+500", "10*(not not 7)", "10*(1 or 0 and 0)", "day/day", "8*2%5",
+            "10*(0 or 0)", "10*(0 or 1)", "10*(3 and 1)", "10*(3 and 0)", "10*(4>4)", "10*(4<4)", "10*(1 or 1 and 0)"};
         int[] days = new int[formulas.length];
         days[9] = 365;
         days[10] = 9999;
         int[] want = {7, 9, 3, 3, 17, 4, 4, 1, 1, 365, 365, 365, 1, 1, 1, 1, 1, 1, 10, 10, 1, 10, 1, 10, 4, 2,
-            clamp(9999 * 9999 * 9999), 17, 17, clamp(9999 * 9999 * 9999 % 1000 + 500), 10, 10, 1, 1};
+            clamp(9999 * 9999 * 9999), 17, 17, clamp(9999 * 9999 * 9999 % 1000 + 500), 10, 10, 1, 1,
+            1, 10, 10, 1, 1, 1, 10};
         for (int i = 0; i < formulas.length; i++) {
             C.due("worth by " + formulas[i] + " on " + days[i], worthOf(formulas[i], days[i]), want[i]);
         }
@@ -878,6 +897,13 @@ public final class PromisesTest {
         C.due("part", v.part(0), 2);
         C.due("first", v.lies(0), 0);
         C.due("then", v.lies(1), 200);
+        String two = men(5) + "kind k 3;reason r of k all;duel a with b on 6;duel a with c on 6;duel a with d on 7;"
+            + "duel a with e on 7;";
+        C.due("once for all: not in both", Checks.land(two).part(0), -1);
+        DuelDelays u = Checks.land(two.replace("all;", "all;reason s of k all;"));
+        C.due("but by another", u.part(0), 2);
+        C.due("first", u.lies(0), 0);
+        C.due("then", u.lies(1), 201);
     }
 
     private static void promise29() {
