@@ -22,7 +22,11 @@ public final class DuelDelays {
     private static final int MAX_LINES = 60;
     private static final int MAX_SIGHTS = 30;
     private static final int BOXES = 3;
-    private static final int LINE_WIDTH = 5;
+    private static final int LINE_DUEL = 0;
+    private static final int LINE_MAN = 1;
+    private static final int LINE_REASON = 2;
+    private static final int LINE_DAY = 3;
+    private static final int LINE_WORTH = 4;
     private static final int MOVES = 2 * MAX_REASONS;
     private static final int LATEST_MORNING = 9999;
     private static final int LATEST_DAY = 9000;
@@ -530,7 +534,7 @@ public final class DuelDelays {
 
     public int log(int i, int what) {
         State now = states[current];
-        if (i < 0 || i >= now.lines || what < 0 || what >= LINE_WIDTH) {
+        if (i < 0 || i >= now.lines || what < LINE_DUEL || what > LINE_WORTH) {
             return NONE;
         }
         return now.lineOf(i, what);
@@ -542,8 +546,8 @@ public final class DuelDelays {
             return NO_SUCH;
         }
         for (int i = 0; i < now.lines; i++) {
-            if (now.lineOf(i, 0) == duel) {
-                return now.lineOf(i, 1);
+            if (now.lineOf(i, LINE_DUEL) == duel) {
+                return now.lineOf(i, LINE_MAN);
             }
         }
         return NONE;
@@ -573,7 +577,7 @@ public final class DuelDelays {
         State now = states[current];
         int count = 0;
         for (int i = 0; i < now.lines; i++) {
-            if (sights.sawLater(now.lineOf(i, 2), now.lineOf(i, 3), k)) {
+            if (sights.sawLater(now.lineOf(i, LINE_REASON), now.lineOf(i, LINE_DAY), k)) {
                 count++;
                 if (count <= 8) {
                     heap.add(i);
@@ -1396,7 +1400,8 @@ public final class DuelDelays {
         /** Of each DUEL the uses, as bits: MAX_REASONS times the SIDE, and the REASON. */
         final int[] used = new int[MAX_DUELS];
         private final int[] sides = new int[2 * MAX_DUELS];
-        private final int[] log = new int[LINE_WIDTH * MAX_LINES];
+        /** A line in one int, so that 44 states are small: its five numbers from the highest bits down. */
+        private final int[] log = new int[MAX_LINES];
 
         void begin(Land land) {
             day = 0;
@@ -1427,7 +1432,7 @@ public final class DuelDelays {
             System.arraycopy(other.honours, 0, honours, 0, MAX_DUELS);
             System.arraycopy(other.used, 0, used, 0, MAX_DUELS);
             System.arraycopy(other.sides, 0, sides, 0, 2 * MAX_DUELS);
-            System.arraycopy(other.log, 0, log, 0, LINE_WIDTH * other.lines);
+            System.arraycopy(other.log, 0, log, 0, other.lines);
         }
 
         boolean isAlive(int man) {
@@ -1455,7 +1460,26 @@ public final class DuelDelays {
         }
 
         int lineOf(int i, int what) {
-            return log[LINE_WIDTH * i + what];
+            int line = log[i];
+            switch (what) {
+                case LINE_DUEL:
+                    return line >>> 29;
+                case LINE_MAN:
+                    return line >>> 26 & 7;
+                case LINE_REASON:
+                    return line >>> 23 & 7;
+                case LINE_DAY:
+                    return line >>> 9 & 16383;
+                default:
+                    return line & 511;
+            }
+        }
+
+        private void addLine(int duel, int man, int reason, int worth) {
+            if (lines < MAX_LINES) {
+                log[lines] = duel << 29 | man << 26 | reason << 23 | day << 9 | worth;
+                lines++;
+            }
         }
 
         boolean haveOpenDuel(int man, int other) {
@@ -1560,15 +1584,7 @@ public final class DuelDelays {
             mornings[duel] = putOffBy(land, duel, reason);
             honours[duel] = man;
             used[duel] |= 1 << (side * MAX_REASONS + reason);
-            if (lines < MAX_LINES) {
-                int at = LINE_WIDTH * lines;
-                log[at] = duel;
-                log[at + 1] = man;
-                log[at + 2] = reason;
-                log[at + 3] = day;
-                log[at + 4] = worth;
-                lines++;
-            }
+            addLine(duel, man, reason, worth);
         }
 
         void addDuel(int man, int other, int morning) {
@@ -1739,6 +1755,9 @@ public final class DuelDelays {
     /** Goes through what two can do by REASONS used on the MORNING itself, number by number of them. */
     private static final class Search {
         private static final int SLOTS = 8192;
+        private static final int INDEX_BITS = 12;
+        private static final int INDEX_MASK = (1 << INDEX_BITS) - 1;
+        private static final int MAX_ROUNDS = (1 << (32 - INDEX_BITS)) - 1;
         private static final int MORNING_BITS = 14;
         private static final int MORNING_MASK = (1 << MORNING_BITS) - 1;
 
@@ -1751,13 +1770,12 @@ public final class DuelDelays {
         private final int[] barring = new int[MOVES];
         /** Of a state what was used, above its MORNING. */
         private final int[] keys = new int[MAX_STATES];
-        private final int[] parents = new int[MAX_STATES];
-        private final int[] moves = new int[MAX_STATES];
+        /** How it was come to: MOVES times the state ahead of it, and the move. */
+        private final int[] ways = new int[MAX_STATES];
         private int count;
         private final boolean[] wins = new boolean[MAX_STATES];
-        /** Where a state is by its key; a slot holds one of this round only if its stamp says so. */
+        /** Where a state is by its key: the number of its round, so that none need be cleared, above its index. */
         private final int[] slots = new int[SLOTS];
-        private final int[] stamps = new int[SLOTS];
         private int round;
         /** WORTH by KIND in the state at hand, 0 if it was not needed yet. */
         private final int[] worths = new int[MAX_KINDS];
@@ -1794,6 +1812,10 @@ public final class DuelDelays {
 
         void startAt(int used, int morning) {
             round++;
+            if (round > MAX_ROUNDS) {
+                round = 1;
+                Arrays.fill(slots, 0);
+            }
             count = 0;
             reach(used << MORNING_BITS | morning, 0, 0);
         }
@@ -1863,7 +1885,7 @@ public final class DuelDelays {
                 int move = turn * MAX_REASONS + reason;
                 if (allows(i, move)) {
                     int slot = slotOf(keyBehind(i, move));
-                    if (stamps[slot] == round && !wins[slots[slot]]) {
+                    if (isTaken(slot) && !wins[slots[slot] & INDEX_MASK]) {
                         return reason;
                     }
                 }
@@ -1882,8 +1904,8 @@ public final class DuelDelays {
         private void keepPath(int goal, int number) {
             int at = goal;
             for (int i = Math.min(number, path.length) - 1; i >= 0; i--) {
-                path[i] = moves[at];
-                at = parents[at];
+                path[i] = ways[at] % MOVES;
+                at = ways[at] / MOVES;
             }
         }
 
@@ -1924,17 +1946,15 @@ public final class DuelDelays {
         /** Comes to a state, from a parent by a move; false if it is one too many. */
         private boolean reach(int key, int parent, int move) {
             int slot = slotOf(key);
-            if (stamps[slot] == round) {
+            if (isTaken(slot)) {
                 return true;
             }
             if (count >= MAX_STATES) {
                 return false;
             }
-            stamps[slot] = round;
-            slots[slot] = count;
+            slots[slot] = round << INDEX_BITS | count;
             keys[count] = key;
-            parents[count] = parent;
-            moves[count] = move;
+            ways[count] = MOVES * parent + move;
             count++;
             return true;
         }
@@ -1942,10 +1962,14 @@ public final class DuelDelays {
         /** The slot that holds the key, or the free one in which it belongs. */
         private int slotOf(int key) {
             int slot = (key * 0x9E3779B1) >>> 19;
-            for (int i = 0; i < SLOTS && stamps[slot] == round && keys[slots[slot]] != key; i++) {
+            for (int i = 0; i < SLOTS && isTaken(slot) && keys[slots[slot] & INDEX_MASK] != key; i++) {
                 slot = (slot + 1) % SLOTS;
             }
             return slot;
+        }
+
+        private boolean isTaken(int slot) {
+            return slots[slot] >>> INDEX_BITS == round;
         }
     }
 

@@ -283,6 +283,10 @@ public final class AheadEdgesTest {
             + ON_5);
         C.due("by the eighth", seventh.last(0, 0), 17);
         C.due("by the first", seventh.last(0, 1), 10);
+        // WORTH is by the MORNING of each turn: r brings it to 10, from where a's s ends it; s leaves a none
+        DuelDelays day = Checks.land("man a dies 23;man b dies 99;kind k day;reason r of k by b;reason s of k;" + ON_5);
+        C.due("b wins by s", day.last(0, 1), 11);
+        C.due("a loses by s", day.last(0, 0), 0);
         C.due("by 3,000 states", Checks.land(LAST_3000 + ON_5).last(0, 0), 10);
         C.due("by 3,001 states", Checks.land(LAST_3001 + ON_5).last(0, 1), -2);
         C.due("the other SIDE by fewer", Checks.land(LAST_3001 + ON_5).last(0, 0), 0);
@@ -387,6 +391,11 @@ public final class AheadEdgesTest {
         C.due("a has RENTED it", has.hire(0, 0), 0);
         lies(has, 0);
         C.due("a has RENTED it, b need not", has.hire(0, 1), 0);
+        // whose REASON it is may have a DUEL of his own
+        DuelDelays busy = Checks.land("man a dies 12;man b dies 90;man c dies 90;man d dies 90;kind k 4;reason r of k by c rent 9;"
+            + "duel a with b on 8;duel c with d on 8;duel d with b on 8;");
+        C.due("for SIDE 0", busy.hire(0, 0), 9);
+        C.due("for SIDE 1", busy.hire(0, 1), 9);
         // the other SIDE's own: an each can be used by him, too
         DuelDelays other = Checks.land("man a dies 16;man b dies 90;kind k 4;reason r of k by b rent 3 each;reason s of k by b rent 2;"
             + "duel a with b on 4;");
@@ -505,6 +514,11 @@ public final class AheadEdgesTest {
             C.due("MORNINGS " + on[i], x.part(0), want[i]);
             lies(x, lie[i]);
         }
+        // what DUEL 0 could be put off by does not help: the others' MORNINGS do not change by having been tried
+        DuelDelays tried = Checks.land(men(6) + "kind k 2;reason r of k;duel a with b on 6;duel a with c on 7;duel a with d on 7;"
+            + "duel a with e on 8;duel a with f on 8;");
+        C.due("two CLASHES", tried.part(0), 2);
+        lies(tried, 100, 300);
         // used today: from .. to and WORTH are by the DAY of today
         DuelDelays x = Checks.land(men(3) + "kind k 1+day;reason r of k from 2 to 3;duel a with b on 6;duel a with c on 6;");
         for (int day = 0; day < 5; day++) {

@@ -717,6 +717,16 @@ public final class LandEdgesTest {
         C.due("SIDES stay", open.duel(0, 0), 0);
         C.due("his own stays", open.duel(1, 4), 1);
         C.due("the other one goes to him", open.duel(2, 0), 1);
+        // the same from SIDE 1
+        DuelDelays turned = Checks.land(men + "duel b with a on 5;duel e with a on 7;duel d with a on 5;duel e with c on 9;"
+            + "duel d with b on 7;");
+        turned.days(2);
+        C.due("the heir is the other one", turned.duel(0, 4), 0);
+        C.due("the heir has an OPEN one", turned.duel(2, 4), 0);
+        C.due("SIDES stay", turned.duel(0, 1) + turned.duel(2, 1), 0);
+        C.due("his own stays", turned.duel(4, 4), 1);
+        C.due("the other one goes to him", turned.duel(1, 1), 1);
+        C.due("OPEN", turned.duel(1, 4), 1);
         DuelDelays none = Checks.land("man a dies 2;man d dies 90;duel a with d on 5;");
         none.days(2);
         C.due("no son", none.duel(0, 4), 0);

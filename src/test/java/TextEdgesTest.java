@@ -37,9 +37,12 @@ public final class TextEdgesTest {
         withinOthers();
         firstFault();
         leastAtOnePlace();
+        cantStandThere();
         theEnd();
         faultOfLatest();
         codeAnew();
+        codeBehindBack();
+        codeAgainAndAgain();
         codeRefused();
         C.finish("TextEdgesTest");
     }
@@ -572,6 +575,56 @@ public final class TextEdgesTest {
         fault(times("(", 40), 2, 0);
     }
 
+    // "2 one that can't stand there"
+    private static void cantStandThere() {
+        for (String sign : "or and < > = + - * / %".split(" ")) {
+            fault("kind k 1 " + sign + " ;", 2, 10 + sign.length());
+            fault("kind k ( 1 " + sign + " ) ;", 2, 12 + sign.length());
+            fault("kind k " + sign + " 1 ;", 2, 7);
+            fault("kind k 1 " + sign + " " + sign + " 1 ;", 2, 10 + sign.length());
+            good("kind k 1 " + sign + " 1 ;");
+        }
+        for (String sign : "< > =".split(" ")) {
+            fault("kind k 1 " + sign + " 2 < 3;", 2, 13);
+            good("kind k (1 " + sign + " 2) < 3;");
+            fault("kind k 1 " + sign + " not 2;", 2, 11);
+        }
+        for (String sign : "+ - * / %".split(" ")) {
+            fault("kind k 1 " + sign + " not 2;", 2, 11);
+        }
+        fault("kind k not ;", 2, 11);
+        fault("kind k ;", 2, 7);
+        fault("kind k ( ) ;", 2, 9);
+        fault("kind k ( 1 ;", 2, 11);
+        fault("kind k 1 ) ;", 2, 9);
+        fault("kind k ( 1 ) ) ;", 2, 13);
+        fault("kind k q ;", 2, 7);
+        everyTokenEverywhere();
+    }
+
+    /** Each TOKEN put in, or in the place of another one, at each place of a whole text; the Model says what is due. */
+    private static void everyTokenEverywhere() {
+        String[] some = (String.join(" ", WORDS) + " ; ( ) < > = + - * / % a b k r s zz 0 1 7 99 100 999 1000 00000 abcdefghi ? 7x")
+            .split(" ");
+        String[] tokens = WHOLE.split(" ");
+        int at = 0;
+        for (String token : tokens) {
+            String ahead = WHOLE.substring(0, at);
+            for (String other : some) {
+                asTheModel(ahead + other + " " + WHOLE.substring(at));
+                asTheModel(ahead + other + WHOLE.substring(at + token.length()));
+            }
+            at += token.length() + 1;
+        }
+    }
+
+    private static void asTheModel(String text) {
+        Model model = new Model();
+        model.tape = text;
+        model.code();
+        fault(text, model.fault(0), model.fault(1));
+    }
+
     // "the end: the text's length": 2, at every TOKEN behind which the text may not end
     private static void theEnd() {
         int at = 0;
@@ -643,6 +696,59 @@ public final class TextEdgesTest {
         C.due("an empty TAPE is a CODE", x.code(), 0);
         for (int what = 0; what < 16; what++) {
             C.due("empty: about(" + what + ")", x.about(what), what == 12 ? time : 0);
+        }
+    }
+
+    // what was there ahead of the first ACT is gone, too
+    private static void codeBehindBack() {
+        DuelDelays x = new DuelDelays();
+        Ways.rich(x);
+        x.redo();
+        x.put(2, 0, 1);
+        x.image(2);
+        x.back(2);
+        C.due("code", Checks.code(x, Ways.LAND), 4);
+        int[] want = {4, 2, 6, 2, 0, 7, 15, 2, 0, 0, 0, 0, 7, 0, 3, 0};
+        for (int what = 0; what < want.length; what++) {
+            C.due("behind back: about(" + what + ")", x.about(what), want[what]);
+        }
+        C.due("coin", x.man(0, 1), 5);
+        C.due("RENTED", x.man(0, 4), 0);
+        C.due("STRUCK", x.reason(2, 6), 0);
+        C.due("used", x.reason(0, 7) + x.reason(1, 7), 0);
+        C.due("HONOUR", x.duel(0, 3), -1);
+        C.due("insult", x.insult(2, 0), 2);
+        C.due("a new DUEL has nothing used", x.duel(2, 5), 0);
+        C.due("a new DUEL is nobody's HONOUR", x.duel(2, 3), -1);
+        C.due("each can be used", x.may(2, 0), 2);
+    }
+
+    // a text tells all: what texts before told does not count
+    private static void codeAgainAndAgain() {
+        DuelDelays x = new DuelDelays();
+        String two = "man a dies 9;man b dies 9;";
+        String land = two + "kind k " + sum(30) + ";kind q 7*(" + sum(20) + ")+uses-spent;reason r of k each;reason s of q each;"
+            + "duel a with b on 3;honour 3;draw 5;";
+        String turned = two + "kind q 7*(" + sum(20) + ")+uses-spent;kind k " + sum(30) + ";reason r of k each;reason s of q each;"
+            + "duel a with b on 3;honour 4;draw 6;";
+        for (int i = 0; i < 20; i++) {
+            boolean even = i % 3 != 0;
+            C.due("code " + i, Checks.code(x, even ? land : turned), 2);
+            C.due("WORTH of r", x.worth(0, 0, 0), 30);
+            C.due("WORTH of s", x.worth(0, 1, 0), 140);
+            C.due("the KIND of r", x.reason(0, 0), even ? 0 : 1);
+            C.due("draw", x.about(5), even ? 5 : 6);
+            x.put(0, 0, 0);
+            C.due("spent 1, uses 0", x.worth(0, 1, 0), 139);
+            x.put(0, 0, 1);
+            C.due("spent 2, uses 1", x.worth(0, 1, 0), 139);
+        }
+        for (int i = 0; i < 3; i++) {
+            C.due("code", Checks.code(x, two), 2);
+            C.due("draw is not told", x.about(5), 0);
+            C.due("insult", x.insult(0, 1), 0);
+            C.due("honour is not told", x.duel(0, 2), 9);
+            C.due("units", x.about(14), 0);
         }
     }
 
