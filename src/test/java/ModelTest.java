@@ -2,7 +2,7 @@ import java.util.Random;
 
 /** Random lands and runs of calls, each answer held against the Model's. */
 public final class ModelTest {
-    private static final int RUNS = 1500;
+    private static final int RUNS = 700;
     private static final String[] NAMES = {"a", "b", "c", "d", "e", "f", "g", "h", "i", "abcdefgh"};
 
     private final Random random;
@@ -12,10 +12,14 @@ public final class ModelTest {
     private String trail = "";
     /** In a slow run MEN live long, REASONS are worth little, and few DAYS go by. */
     private final boolean slow;
+    /** In a crowded run many DUELS are on few MORNINGS, and most REASONS are another one's. */
+    private final boolean crowded;
 
     private ModelTest(long seed, Checks checks) {
         random = new Random(seed);
-        slow = random.nextInt(3) == 0;
+        int sort = random.nextInt(6);
+        slow = sort < 3;
+        crowded = sort == 2 || sort == 3;
         this.checks = checks;
     }
 
@@ -80,7 +84,7 @@ public final class ModelTest {
 
     private String landText() {
         StringBuilder s = new StringBuilder();
-        int men = random.nextInt(5) + 2;
+        int men = crowded ? 4 + random.nextInt(3) : 2 + random.nextInt(5);
         int kinds = random.nextInt(4) + 1;
         int reasons = slow ? 8 - random.nextInt(3) : random.nextInt(9);
         int most = new int[] {30, 100, 400, 999}[random.nextInt(4)];
@@ -100,15 +104,16 @@ public final class ModelTest {
         for (int i = 0; i < reasons; i++) {
             reasonLine(s, NAMES[9 - i], kinds, men);
         }
-        for (int i = random.nextInt(7); i > 0; i--) {
+        for (int i = crowded ? 12 : random.nextInt(7); i > 0; i--) {
             int a = random.nextInt(men);
             int b = random.nextInt(men);
             String pair = NAMES[a] + " with " + NAMES[b];
             String turned = NAMES[b] + " with " + NAMES[a];
-            boolean wrong = a == b || s.indexOf(pair) >= 0 || s.indexOf(turned) >= 0;
+            boolean full = crowded && s.toString().split("duel").length > 6;
+            boolean wrong = full || a == b || s.indexOf(pair) >= 0 || s.indexOf(turned) >= 0;
             if (!wrong || random.nextInt(100) == 0) {
-                s.append("duel ").append(pair).append(" on ").append(1 + random.nextInt(random.nextBoolean() ? 8 : most));
-                s.append(';');
+                int morning = crowded ? 6 + random.nextInt(3) : 1 + random.nextInt(random.nextBoolean() ? 8 : most);
+                s.append("duel ").append(pair).append(" on ").append(morning).append(';');
             }
         }
         if (random.nextBoolean()) {
@@ -122,7 +127,7 @@ public final class ModelTest {
 
     private void reasonLine(StringBuilder s, String name, int kinds, int men) {
         s.append("reason ").append(name).append(" of ").append(NAMES[random.nextInt(kinds)]);
-        if (random.nextInt(2) == 0) {
+        if (random.nextInt(4) < (crowded ? 3 : 2)) {
             s.append(" by ").append(NAMES[random.nextInt(men)]);
         }
         int from = random.nextInt(30);
@@ -196,7 +201,9 @@ public final class ModelTest {
 
     private void step() {
         int pick = random.nextInt(100);
-        if (pick < 40) {
+        if (crowded && pick % 4 == 0) {
+            foresee(random.nextBoolean() ? 4 : 6);
+        } else if (pick < 40) {
             act(pick);
         } else if (pick < 65) {
             look(pick);
@@ -222,7 +229,7 @@ public final class ModelTest {
         } else if (pick < 25) {
             due("insult(" + m + ", " + o + ")", x.insult(m, o), y.insult(m, o));
         } else if (pick < 29) {
-            int n = slow ? random.nextInt(2) : random.nextInt(20) == 0 ? some(402) : random.nextInt(6);
+            int n = slow || crowded ? random.nextInt(2) : random.nextInt(20) == 0 ? some(402) : random.nextInt(6);
             due("days(" + n + ")", x.days(n), y.days(n));
         } else if (pick < 34) {
             due("undo()", x.undo(), y.undo());
